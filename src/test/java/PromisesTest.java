@@ -297,6 +297,8 @@ public final class PromisesTest {
         due("two", x.count(2), 2);
         stemIs(x, 0, 100, 180, 0, 2, 1);
         stemIs(x, 1, 250, 300, 3, 1, 0);
+        x = letter("u200,0-700", "d250,0-700", "u150,0-700");
+        stemIs(x, 0, 200, 250, 0, 1, 0);
         about = "9 stem: as narrow, the least X";
         x = letter("u150,0-700", "u100,0-700", "d200,0-700", "d250,0-700", "d150,0-700");
         due("150 to 200 touches it", x.count(2), 1);
@@ -313,6 +315,9 @@ public final class PromisesTest {
         x = stems(100, 200, 200, 300);
         due("touching is over", x.count(2), 1);
         stemIs(x, 0, 100, 200, 0, 1, 0);
+        x = stems(100, 200, 200, 290);
+        due("touching from the left is over", x.count(2), 1);
+        stemIs(x, 0, 200, 290, 2, 3, 0);
         x = stems(100, 200, 201, 300);
         due("one apart is not", x.count(2), 2);
         stemIs(x, 0, 100, 200, 0, 1, 0);
@@ -428,6 +433,7 @@ public final class PromisesTest {
         due("bold: 4", x.grows(0, 4), 50);
         due("18 of 300", stems(0, 300).grows(0, 18), 59);
         due("19 of 300", stems(0, 300).grows(0, 19), NONE);
+        due("2 of 25: 1500 at 60, 1475 at 59", stems(0, 25).grows(0, 2), 60);
     }
 
     private void fit() {
@@ -461,6 +467,7 @@ public final class PromisesTest {
         x = stems(900, 999);
         due("size 1", x.fit(1, 0), 0);
         due("size 10", x.fit(10, 0), 9);
+        due("size 60", stems(998, 999).fit(60, 0), 59);
         due("no stem, UNKNOWN before all", new StemDots().fit(0, 0), UNKNOWN);
     }
 
@@ -477,6 +484,14 @@ public final class PromisesTest {
         x.rule(2, 0);
         due("nothing counts: 0", x.fit(60, 0), 0);
         due("nothing counts: 6", x.fit(60, 1), 6);
+        about = "13 fit: gaps alone, three stems";
+        // 1500 are as far from one dot as from two; behind that 2600 are 400 from three dots, 600 from two.
+        x = stems(0, 100, 250, 350, 610, 710);
+        x.rule(1, 0);
+        due("distortion", x.distortion(10), 1000 + 800);
+        due("first", x.fit(10, 0), 0);
+        due("second", x.fit(10, 1), 2);
+        due("third", x.fit(10, 2), 6);
         about = "13 fit: by the worst one, what is not the worst lies as far to the left as it may";
         // Between the first two 20 of 1000: one dot for 200, twice 800, by 2: no way is below 3200. So far
         // the others may drift: twice the first's middle 5000 for 7000 (not 3000); behind the second two dots
