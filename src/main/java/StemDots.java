@@ -263,8 +263,7 @@ public final class StemDots {
     /** The signs of an edge that is being told, and what they tell. */
     private static final class Pad {
         private static final int X = 0, LOW = 1, HIGH = 2, NUMBERS = 3;
-        // Behind HIGH nothing may follow: no sign of a pad is 0.
-        private static final char[] BEHIND_NUMBER = {',', '-', 0};
+        private static final char[] BEHIND_NUMBER = {',', '-'};
 
         final int[] row;
         int signs;
@@ -300,7 +299,7 @@ public final class StemDots {
                 if (figures == 0) {
                     return at;
                 }
-                if (n < HIGH) {
+                if (n < BEHIND_NUMBER.length) {
                     if (!isSign(at, BEHIND_NUMBER[n])) {
                         return at;
                     }
@@ -544,7 +543,7 @@ public final class StemDots {
         private final Stems stems;
         // Of the size that is being worked out.
         private final int[] dotsOf, leftmost;
-        private final long[] rest;
+        private final long[] rest, gapCosts;
         private int workSize, room;
 
         Fits(Letter itsLetter, Stems itsStems) {
@@ -557,6 +556,7 @@ public final class StemDots {
             dotsOf = new int[MOST_STEMS];
             leftmost = new int[MOST_STEMS];
             rest = new long[MOST_STEMS * SHIFTS];
+            gapCosts = new long[SHIFTS];
         }
 
         void forget() {
@@ -634,9 +634,17 @@ public final class StemDots {
         // From the last stem back, so that the walk from the first one on can take the least dot at each step.
         private void weighRests() {
             for (int s = stems.many - 1; s >= 0; s--) {
+                weighGapsBehind(s);
                 for (int shift = 0; shift <= room && shift < SHIFTS; shift++) {
                     rest[s * SHIFTS + shift] = restAt(s, shift);
                 }
+            }
+        }
+
+        // A gap's cost hangs on how much wider it is alone: each is weighed once, not for each pair of shifts.
+        private void weighGapsBehind(int s) {
+            for (int wider = 0; s + 1 < stems.many && wider <= room && wider < SHIFTS; wider++) {
+                gapCosts[wider] = gapCost(s, wider);
             }
         }
 
@@ -645,9 +653,9 @@ public final class StemDots {
             if (s + 1 >= stems.many) {
                 return own;
             }
-            long behind = Long.MAX_VALUE;
-            for (int next = shift; next <= room && next < SHIFTS; next++) {
-                behind = Math.min(behind, joined(gapCost(s, next - shift), rest[(s + 1) * SHIFTS + next]));
+            long behind = joined(gapCosts[0], rest[(s + 1) * SHIFTS + shift]);
+            for (int next = shift + 1; next <= room && next < SHIFTS; next++) {
+                behind = Math.min(behind, joined(gapCosts[next - shift], rest[(s + 1) * SHIFTS + next]));
             }
             return joined(own, behind);
         }

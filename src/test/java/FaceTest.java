@@ -21,7 +21,7 @@ public final class FaceTest {
     private static final String[] CONSTANTS = {"NONE -6", "UNKNOWN -1", "OUTSIDE -2", "STATE -3", "FULL -4", "NO -5",
         "GONE -10000000"};
     private static final String[] FORBIDDEN = {"\\bthrows?\\b", "\\btry\\b", "\\bcatch\\b", "\\bfinally\\b",
-        "\\bsynchronized\\b", "\\bassert\\b", "\\bimport\\b", "\\bpackage\\b", "->", "::", "\\w+Exact\\b", "\\bString\\b",
+        "\\bsynchronized\\b", "\\bassert\\b", "_VALUE\\b", "\\bimport\\b", "\\bpackage\\b", "->", "::", "\\w+Exact\\b", "\\bString\\b",
         "\\bObject\\b", "\\bSystem\\.(?!arraycopy)\\w+", "\\bnew \\w+\\([^)]*\\)\\s*\\{", "\\bprotected\\b", "\\bequals\\b",
         "\\bhashCode\\b", "\\btoString\\b", "[^\\x00-\\x7e]"};
     private static final int MOST_LINES = 60;
