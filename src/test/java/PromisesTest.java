@@ -1,12 +1,5 @@
 /** The promises one by one, by answers worked out by hand from the document. */
-public final class PromisesTest {
-    private static final int NONE = -6, UNKNOWN = -1, OUTSIDE = -2, STATE = -3, FULL = -4, NO = -5;
-    private static final int GONE = -10000000;
-    private static final int[] FAR = {Integer.MIN_VALUE, Integer.MAX_VALUE};
-
-    private final Check check = new Check();
-    private String about = "";
-
+public final class PromisesTest extends Cases {
     public static void main(String[] args) {
         PromisesTest t = new PromisesTest();
         t.newObject();
@@ -35,36 +28,6 @@ public final class PromisesTest {
         t.restoredAnswers();
         t.count();
         t.check.end("PromisesTest");
-    }
-
-    private void due(String call, long got, long want) {
-        check.due(about + ": " + call, got, want);
-    }
-
-    private static void put(StemDots x, String text) {
-        x.wipe();
-        for (int n = 0; n < text.length(); n++) {
-            x.say(text.charAt(n));
-        }
-    }
-
-    private static StemDots letter(String... edges) {
-        StemDots x = new StemDots();
-        for (String edge : edges) {
-            put(x, edge);
-            x.edge();
-        }
-        return x;
-    }
-
-    /** Stems by their lefts and rights, all of one height. */
-    private static StemDots stems(int... leftsAndRights) {
-        StemDots x = new StemDots();
-        for (int n = 0; n < leftsAndRights.length; n++) {
-            put(x, (n % 2 == 0 ? "u" : "d") + leftsAndRights[n] + ",0-700");
-            x.edge();
-        }
-        return x;
     }
 
     private void newObject() {
@@ -189,13 +152,6 @@ public final class PromisesTest {
         due("no other", x.fit(10, 1), UNKNOWN);
     }
 
-    private void edgeIs(StemDots x, int edge, int up, int at, int low, int high) {
-        due("up of " + edge, x.told(edge, 0), up);
-        due("x of " + edge, x.told(edge, 1), at);
-        due("low of " + edge, x.told(edge, 2), low);
-        due("high of " + edge, x.told(edge, 3), high);
-    }
-
     private void told() {
         about = "7 told";
         StemDots x = letter("d390,10-700", "u0,0-999", "u300,007-08", "d007,00-1");
@@ -243,14 +199,6 @@ public final class PromisesTest {
         }
         due("5", x.rule(5, 0), OUTSIDE);
         due("-1", x.rule(-1, 0), OUTSIDE);
-    }
-
-    private void stemIs(StemDots x, int stem, int left, int right, int up, int down, int kind) {
-        due("left of " + stem, x.stem(stem, 0), left);
-        due("right of " + stem, x.stem(stem, 1), right);
-        due("up of " + stem, x.stem(stem, 2), up);
-        due("down of " + stem, x.stem(stem, 3), down);
-        due("class of " + stem, x.stem(stem, 4), kind);
     }
 
     private void stem() {
@@ -331,12 +279,6 @@ public final class PromisesTest {
         for (int s = 0; s < 8; s++) {
             stemIs(x, s, 200 + 100 * s, 210 + 100 * s, 14 - 2 * s, 15 - 2 * s, 0);
         }
-    }
-
-    private void kindIs(StemDots x, int kind, int stems, int least, int standard) {
-        due("stems of " + kind, x.kind(kind, 0), stems);
-        due("least of " + kind, x.kind(kind, 1), least);
-        due("standard of " + kind, x.kind(kind, 2), standard);
     }
 
     private void kind() {
