@@ -1,14 +1,16 @@
 import java.util.ArrayList;
+import java.util.Arrays;
 import java.util.Comparator;
 import java.util.List;
 
 /**
  * The document once more, as plainly as can be and by other ways than the program: every pair of edges is
- * listed and sorted, every way to lay the stems is tried. Slow; only to be compared with.
+ * listed and sorted, every way to lay the stems is tried, or, where it is told to, the ways are built from
+ * the first stem on. Slow; only to be compared with.
  */
 final class Model {
     static final int NONE = -6, UNKNOWN = -1, OUTSIDE = -2, STATE = -3, FULL = -4, NO = -5, GONE = -10000000;
-    /** The most ways that are tried; where there are more, the model does not know. */
+    /** The most ways that are tried; where there are more, the model does not know, but by prefixes. */
     static final long MOST_WAYS = 60000;
 
     record Edge(boolean up, int x, int low, int high) { }
@@ -96,6 +98,7 @@ final class Model {
     }
 
     private void renew() {
+        laidSize = 0;
         List<Stem> can = new ArrayList<>();
         for (int u = 0; u < edges.size(); u++) {
             for (int d = 0; d < edges.size(); d++) {
@@ -174,7 +177,10 @@ final class Model {
         return size;
     }
 
+    /** Whether fits are found by prefixes, not by trying all ways. */
+    boolean byPrefixes;
     // The fit of the size that was asked for last: its dots (null: none), and its distortion.
+    private int laidSize;
     private int[] fitDots;
     private long fitDistortion;
     private int[] dotsOf;
@@ -195,10 +201,17 @@ final class Model {
     }
 
     private void layAll(int size) {
+        if (size == laidSize) return;
+        laidSize = size;
         fitDots = null;
+        fitDistortion = 0;
         dotsOf = new int[stems.size()];
         for (int s = 0; s < dotsOf.length; s++) dotsOf[s] = dotsAt(classOf(s), size);
-        layFrom(0, new int[dotsOf.length], size);
+        if (byPrefixes && !stems.isEmpty()) {
+            layByPrefixes(size);
+        } else {
+            layFrom(0, new int[dotsOf.length], size);
+        }
     }
 
     // Ways come in the order of their dots, so only a lesser distortion takes the place of an earlier one.
@@ -221,20 +234,77 @@ final class Model {
     private long distortionOf(int[] dots, int size) {
         long sum = 0, greatest = 0;
         for (int s = 0; s < dots.length; s++) {
-            Stem stem = stems.get(s);
-            long drift = Math.abs((2L * dots[s] + dotsOf[s]) * 1000 - (long) (stem.left + stem.right) * size);
-            long cost = counted(drift) * rules[1];
+            long cost = stemCost(s, dots[s], size);
             sum += cost;
             greatest = Math.max(greatest, cost);
             if (s > 0) {
-                long between = dots[s] - dots[s - 1] - dotsOf[s - 1];
-                long gap = 2 * Math.abs(between * 1000 - (long) (stem.left - stems.get(s - 1).right) * size);
-                cost = counted(gap) * rules[2];
+                cost = gapCost(s, dots[s - 1], dots[s], size);
                 sum += cost;
                 greatest = Math.max(greatest, cost);
             }
         }
         return rules[3] < 2 ? sum : greatest;
+    }
+
+    private long stemCost(int s, int dot, int size) {
+        Stem stem = stems.get(s);
+        return counted(Math.abs((2L * dot + dotsOf[s]) * 1000 - (long) (stem.left + stem.right) * size)) * rules[1];
+    }
+
+    /** Of the gap before stem s. */
+    private long gapCost(int s, int before, int dot, int size) {
+        long between = dot - before - dotsOf[s - 1];
+        return counted(2 * Math.abs(between * 1000 - (long) (stems.get(s).left - stems.get(s - 1).right) * size)) * rules[2];
+    }
+
+    private record Way(long cost, int[] dots) { }
+
+    /**
+     * All added: of the ways of the first stems up to one that lies on a dot only the least can be part of the fit,
+     * of as little the first. By the worst one that is so too, once it is known how great the worst is: then each
+     * way without a greater one is as good.
+     */
+    private void layByPrefixes(int size) {
+        Way found = leastWay(size, Long.MAX_VALUE);
+        if (found == null) return;
+        fitDistortion = found.cost;
+        fitDots = rules[3] < 2 ? found.dots : leastWay(size, found.cost).dots;
+    }
+
+    private Way leastWay(int size, long worst) {
+        Way[] ways = {new Way(0, new int[0])};
+        for (int s = 0; s < dotsOf.length; s++) {
+            Way[] longer = new Way[size];
+            for (int dot = 0; dot + dotsOf[s] <= size; dot++) {
+                for (Way way : ways) longer[dot] = better(longer[dot], onBy(way, dot, size, worst));
+            }
+            ways = longer;
+        }
+        Way least = null;
+        for (Way way : ways) least = better(least, way);
+        return least;
+    }
+
+    /** A way with one stem more, on this dot; null: it can not lie there, or is worse than the worst may be. */
+    private Way onBy(Way way, int dot, int size, long worst) {
+        if (way == null) return null;
+        int s = way.dots.length;
+        long own = stemCost(s, dot, size), gap = 0;
+        if (s > 0) {
+            if (dot < way.dots[s - 1] + dotsOf[s - 1] + 1) return null;
+            gap = gapCost(s, way.dots[s - 1], dot, size);
+        }
+        if (rules[3] >= 2 && Math.max(own, gap) > worst) return null;
+        int[] dots = Arrays.copyOf(way.dots, s + 1);
+        dots[s] = dot;
+        if (rules[3] < 2) return new Way(way.cost + own + gap, dots);
+        return new Way(worst < Long.MAX_VALUE ? worst : Math.max(way.cost, Math.max(own, gap)), dots);
+    }
+
+    private static Way better(Way one, Way other) {
+        if (one == null || other == null) return one == null ? other : one;
+        if (one.cost != other.cost) return one.cost < other.cost ? one : other;
+        return Arrays.compare(one.dots, other.dots) <= 0 ? one : other;
     }
 
     private long counted(long drift) {
